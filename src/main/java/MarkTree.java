@@ -74,6 +74,7 @@ public final class MarkTree {
     public int mark(int parent) {
         if (!tree.has(parent)) return UNKNOWN;
         if (!tree.isThere(parent, now)) return NOT;
+        view.forget();
         return tree.add(parent, now);
     }
 
@@ -81,6 +82,7 @@ public final class MarkTree {
         if (!tree.has(m) || !tree.has(parent)) return UNKNOWN;
         if (m == 0 || !tree.isThere(m, now) || !tree.isThere(parent, now)) return NOT;
         if (tree.isBelow(parent, m, now)) return NOT;
+        view.forget();
         int before = tree.parentIn(m, now);
         tree.setParent(m, parent, now);
         return before;
@@ -90,6 +92,7 @@ public final class MarkTree {
         if (!tree.has(m) || (to != NONE && !tree.has(to))) return UNKNOWN;
         if (m == 0 || m == to || !tree.isThere(m, now)) return NOT;
         if (to != NONE && !tree.isThere(to, now)) return NOT;
+        view.forget();
         tree.ended[m] = now;
         tree.joined[m] = to;
         return tree.countBelow(m, now) - 1;
@@ -128,6 +131,7 @@ public final class MarkTree {
     public int give(int p, int m, int hand, int keys) {
         if (!pictures.has(p) || !tree.has(m)) return UNKNOWN;
         if (!isHand(hand) || !isWithin(keys, 0, (1 << KEYS) - 1)) return OUTSIDE;
+        view.forget();
         return givings.add(p, m, hand, keys, now);
     }
 
@@ -135,6 +139,7 @@ public final class MarkTree {
         if (!givings.has(g)) return UNKNOWN;
         if (!isHand(hand)) return OUTSIDE;
         if (givings.hand[g] == hand || givings.doubted[g][hand] != NONE) return NOT;
+        view.forget();
         givings.doubted[g][hand] = now;
         return givings.doubters(g, now);
     }
@@ -217,6 +222,7 @@ public final class MarkTree {
     public int rule(int e) {
         if (!isWithin(e, 0, EDITIONS - 1)) return OUTSIDE;
         if (rules.size >= MOST_RULES) return FULL;
+        view.forget();
         int number = rules.size;
         rules.read(text, e);
         return afterReading(number);
@@ -316,7 +322,7 @@ public final class MarkTree {
         view.lookIn(e);
         long marks = goingAlong(m, e);
         int found = 0;
-        for (int score = MOST_MARKS; score > 0; score--) {
+        for (int score = Long.bitCount(marks); score > 0; score--) {
             for (int p = 0; p < pictures.size; p++) {
                 if (view.shows(p, m) || Long.bitCount(view.shown[p] & marks) != score) continue;
                 if (found == i) return p;
@@ -959,7 +965,10 @@ public final class MarkTree {
         }
     }
 
-    /** What givings mean and pictures show in the edition last looked in. */
+    /**
+     * What givings mean and pictures show in the edition last looked in. It is kept until the tree,
+     * givings, doubts or rules change: what comes later may change an earlier edition too.
+     */
     private static final class View {
         private final Tree tree;
         private final Givings givings;
@@ -975,16 +984,25 @@ public final class MarkTree {
         final boolean[] needsLook = new boolean[MOST_GIVINGS];
         /** For each picture the set of marks that it shows. */
         final long[] shown = new long[MOST_PICTURES];
+        private boolean judged;
         private int looksIn;
 
         View(Tree itsTree, Givings itsGivings, Rules itsRules) {
             tree = itsTree;
             givings = itsGivings;
             rules = itsRules;
+            judged = false;
+            looksIn = NONE;
         }
 
-        /** Rules may come later for an earlier edition, so nothing of this is kept. */
+        void forget() {
+            judged = false;
+            looksIn = NONE;
+        }
+
         void judge() {
+            if (judged) return;
+            judged = true;
             Arrays.fill(right, 0);
             int judgedBy = NONE;
             for (int g = 0; g < givings.size; g++) {
@@ -992,22 +1010,25 @@ public final class MarkTree {
                 if (e != judgedBy) own.setTo(rules, e);
                 judgedBy = e;
                 wrong[g] = whyWrong(g, e);
-                turns[g] = own.countSense(givings.keys[g], TURNS) > 0;
-                raises[g] = own.countSense(givings.keys[g], RAISES);
+                int keys = givings.keys[g];
+                turns[g] = keys != 0 && own.countSense(keys, TURNS) > 0;
+                raises[g] = keys == 0 ? 0 : own.countSense(keys, RAISES);
                 if (wrong[g] == 0) right[givings.picture[g]]++;
             }
         }
 
         private int whyWrong(int g, int e) {
             int m = givings.mark[g];
+            int keys = givings.keys[g];
             if (!tree.isThere(m, e)) return 1;
-            if (own.disallows(givings.keys[g], tree.pathUp(m, e))) return 2;
-            if (own.barsTwo(givings.keys[g])) return 3;
+            if (keys != 0 && own.disallows(keys, tree.pathUp(m, e))) return 2;
+            if (keys != 0 && own.barsTwo(keys)) return 3;
             if (right[givings.picture[g]] >= own.most) return 4;
             return 0;
         }
 
         void lookIn(int e) {
+            if (looksIn == e) return;
             looksIn = e;
             judge();
             Arrays.fill(shown, 0L);

@@ -878,7 +878,7 @@ public final class MarkTree {
         final int[] senses = new int[KEYS];
         /** For each key the set of marks under which it is allowed; none: everywhere. */
         final long[] allowed = new long[KEYS];
-        /** For each key the set of keys that are barred with it. */
+        /** For each key the set of other keys that clauses which name it first bar with it. */
         final int[] barred = new int[KEYS];
         /** For each mark the set of marks that it needs. */
         final long[] needed = new long[MOST_MARKS];
@@ -923,8 +923,8 @@ public final class MarkTree {
                     allows++;
                     break;
                 case Rules.BAR:
-                    barred[first] |= 1 << second;
-                    barred[second] |= 1 << first;
+                    // A key named twice bars nothing: what is barred are two keys of a giving.
+                    if (first != second) barred[first] |= 1 << second;
                     bars++;
                     break;
                 case Rules.NEED:

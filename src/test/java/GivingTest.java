@@ -119,14 +119,14 @@ public final class GivingTest {
     /** Rules and the tree of the edition in which it was given, also what comes to it later. */
     private static void wrongByItsOwnEdition() {
         MarkTree x = small();
-        x.give(0, 1, 0, 1);
-        x.give(0, 2, 0, 1);
+        x.give(0, 1, 0, 3);
+        x.give(0, 2, 0, 3);
         x.edition();
-        x.give(0, 1, 0, 1);
+        x.give(0, 1, 0, 3);
         Check.rule(x, 1, "allow 0 under 2;");
         check.due("a rule from 1 on, given in 0", x.told(0, 5), 0);
         check.due("a rule from 1 on, given in 1", x.told(2, 5), 2);
-        Check.rule(x, 0, "bar 0 with 0; strike 0;");
+        Check.rule(x, 0, "bar 0 with 1; strike 0;");
         check.due("a rule that comes late for 0", x.told(1, 5), 3);
         check.due("and strikes from 0 on", x.told(2, 5), 3);
         x.end(2, 1);

@@ -152,7 +152,8 @@ final class Model {
             if (any && !under) return 2;
         }
         for (Clause c : clauses) {
-            if (c.word.equals("bar") && it.keys.contains(c.first) && it.keys.contains(c.second)) return 3;
+            if (!c.word.equals("bar") || c.first == c.second) continue;
+            if (it.keys.contains(c.first) && it.keys.contains(c.second)) return 3;
         }
         int ahead = 0;
         for (int h = 0; h < g; h++) if (givings.get(h).picture == it.picture && wrongs()[h] == 0) ahead++;
